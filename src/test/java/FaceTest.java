@@ -1,0 +1,62 @@
+import java.lang.reflect.Constructor;
+import java.lang.reflect.Field;
+import java.lang.reflect.Method;
+import java.lang.reflect.Modifier;
+import java.util.Arrays;
+import java.util.List;
+import java.util.TreeSet;
+
+/** The public face has every member of the document and no other; nothing else can be seen or is static and changes. */
+public final class FaceTest {
+    private static final List<String> METHODS = List.of(
+        "public int about(int)", "public int decode()", "public int encode()", "public int feed(long,int)",
+        "public int fill(int,int,int)", "public int hand(int)", "public int parameter(int)", "public int put(int)",
+        "public int sample(int)", "public int state(int,int)", "public int take()", "public void reset(int)");
+
+    public static void main(String[] args) {
+        Check.due("the class is public and final", VoiceFrames.class.getModifiers(), Modifier.PUBLIC | Modifier.FINAL);
+        methods();
+        constructors();
+        fields(VoiceFrames.class);
+        for (Class<?> inside : VoiceFrames.class.getDeclaredClasses()) {
+            fields(inside);
+        }
+        Check.end();
+    }
+
+    private static void methods() {
+        TreeSet<String> seen = new TreeSet<>();
+        TreeSet<String> publicNames = new TreeSet<>();
+        for (Method method : VoiceFrames.class.getDeclaredMethods()) {
+            if (Modifier.isPublic(method.getModifiers())) {
+                publicNames.add(method.getName());
+                seen.add(method.toString().replace("VoiceFrames.", "").replaceAll(" throws.*", ""));
+            }
+        }
+        Check.due("public methods", seen.toString(), new TreeSet<>(METHODS).toString());
+        for (Method method : VoiceFrames.class.getDeclaredMethods()) {
+            int modifiers = method.getModifiers();
+            if (!Modifier.isPublic(modifiers) && !method.isSynthetic()) {
+                Check.due(method + " is private", modifiers & Modifier.PRIVATE, Modifier.PRIVATE);
+                Check.due(method + " bears a public name", publicNames.contains(method.getName()) ? 1 : 0, 0);
+            }
+        }
+    }
+
+    private static void constructors() {
+        Constructor<?>[] all = VoiceFrames.class.getDeclaredConstructors();
+        Check.due("constructors", Arrays.toString(all), "[public VoiceFrames()]");
+    }
+
+    private static void fields(Class<?> owner) {
+        for (Field field : owner.getDeclaredFields()) {
+            int modifiers = field.getModifiers();
+            if (owner == VoiceFrames.class && !Modifier.isPrivate(modifiers)) {
+                Check.due("a field that is seen", field.toString(), "public static final int VoiceFrames.NONE");
+            }
+            if (Modifier.isStatic(modifiers)) {
+                Check.due(field + " is final", modifiers & Modifier.FINAL, Modifier.FINAL);
+            }
+        }
+    }
+}
