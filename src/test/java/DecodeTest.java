@@ -1,3 +1,5 @@
+import java.util.Arrays;
+
 /** Promises 8 and 10, and the decoder's part of 12: decode, sample, state. */
 public final class DecodeTest {
     public static void main(String[] args) {
@@ -7,6 +9,7 @@ public final class DecodeTest {
         }
         allHeights();
         backOutsideIsTheOneBefore();
+        loudestFrame();
         otherBytesAreGone();
         samples();
         Check.end();
@@ -81,6 +84,20 @@ public final class DecodeTest {
             }
         }
         return bytes;
+    }
+
+    /** All bits 1: the loudest PULSES upon the loudest look back are CUT. */
+    private static void loudestFrame() {
+        VoiceFrames voice = new VoiceFrames();
+        int[] bytes = new int[33];
+        Arrays.fill(bytes, 255);
+        bytes[0] = 0xdf;
+        Check.feedAll(voice, bytes);
+        voice.decode();
+        for (int i = 0; i < 120; i++) {
+            int place = i % 40;
+            Check.due("PAST " + i, voice.state(3, i), place >= 3 && place % 3 == 0 ? 32767 : 0);
+        }
     }
 
     private static void otherBytesAreGone() {

@@ -10,6 +10,7 @@ public final class EncodeTest {
         }
         silence();
         cutOfTheLoudestSample();
+        cutOfTheLastSample();
         refuses();
         parameters();
         Check.end();
@@ -63,6 +64,19 @@ public final class EncodeTest {
             "d4d879d8d950004924924924500049249249245f9ff6dc924924560f51b6b6db6d");
         Check.due("w of the step", voice.state(6, 1), 991435919);
         Check.due("U of the step", voice.state(4, 0), 4208);
+    }
+
+    /** The same step as the frame's last sample: it is left as it is, after its CUT, in U. */
+    private static void cutOfTheLastSample() {
+        VoiceFrames voice = new VoiceFrames();
+        for (int frame = 0; frame < 60; frame++) {
+            voice.fill(-32768, 0, 160);
+            voice.encode();
+        }
+        voice.fill(-32768, 0, 159);
+        voice.put(32767);
+        voice.encode();
+        Check.due("U of the last step", voice.state(4, 0), 32767);
     }
 
     private static void refuses() {
