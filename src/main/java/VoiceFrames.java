@@ -1,5 +1,9 @@
 import java.util.Arrays;
 
+/**
+ * Speech in frames of 160 samples as 33 bytes and back. All rows are made with the object and used again, so that
+ * no call makes another object. The names A, B, C, D, F, G, H, R, LEAST and MOST are the document's tables.
+ */
 public final class VoiceFrames {
     public static final int NONE = -1;
 
@@ -260,6 +264,9 @@ public final class VoiceFrames {
 
     /** The way of the samples into the encoding: no constant share, and the high tones raised. */
     private static final class Inlet {
+        private static final long LEAST_INT = -2147483648L;
+        private static final long MOST_INT = 2147483647L;
+
         private int last;
         private int level;
         private int echo;
@@ -294,8 +301,8 @@ public final class VoiceFrames {
         }
 
         private static int nearestInt(long value) {
-            long floor = value < Integer.MIN_VALUE ? Integer.MIN_VALUE : value;
-            return (int) (floor > Integer.MAX_VALUE ? Integer.MAX_VALUE : floor);
+            long floor = value < LEAST_INT ? LEAST_INT : value;
+            return (int) (floor > MOST_INT ? MOST_INT : floor);
         }
     }
 
@@ -673,6 +680,7 @@ public final class VoiceFrames {
         }
     }
 
+    /** ENCODING, with all of it that goes on from frame to frame. */
     private static final class Encoder {
         private final Inlet inlet;
         private final Prediction prediction;
@@ -758,6 +766,7 @@ public final class VoiceFrames {
         }
     }
 
+    /** DECODING, with all of it that goes on from frame to frame. */
     private static final class Decoder {
         private final Filter filter;
         private final Past past;

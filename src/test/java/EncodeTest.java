@@ -9,6 +9,7 @@ public final class EncodeTest {
             knownFrames(row);
         }
         silence();
+        silenceAfterReset();
         cutOfTheLoudestSample();
         cutOfTheLastSample();
         refuses();
@@ -44,6 +45,21 @@ public final class EncodeTest {
             Check.due("pulse " + i + " of silence", voice.parameter(i), 4);
         }
         Check.due("samples of 7 are 0", voice.state(6, 1), 0);
+    }
+
+    private static void silenceAfterReset() {
+        VoiceFrames voice = new VoiceFrames();
+        voice.fill(-20000, 250, 160);
+        voice.encode();
+        voice.reset(0);
+        voice.fill(0, 0, 160);
+        voice.encode();
+        voice.take();
+        VoiceFrames silent = new VoiceFrames();
+        silent.fill(0, 0, 160);
+        silent.encode();
+        silent.take();
+        Check.due("silence behind sound", Check.handed(voice), Check.handed(silent));
     }
 
     /** After a long low tone the step up is so great that x, lowered and raised again, is above 32767. */
