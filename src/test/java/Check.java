@@ -1,8 +1,10 @@
 import java.util.function.IntUnaryOperator;
 
-/** Counts wrong answers and prints each; a test's main ends with exit code 1 if there was one. */
+/** Runs named tests, counts wrong answers and prints each; a test's main ends with exit code 1 if there was one. */
 final class Check {
     private static int wrong = 0;
+    private static int tests = 0;
+    private static String name = "";
 
     private Check() {
     }
@@ -11,30 +13,42 @@ final class Check {
         void run();
     }
 
+    /** One test, named after the promise or the term that it is about. */
+    static void test(String promise, Call body) {
+        name = promise;
+        tests++;
+        try {
+            body.run();
+        } catch (RuntimeException e) {
+            tell("threw " + e);
+        }
+    }
+
     static void due(String what, long got, long want) {
         if (got != want) {
-            wrong++;
-            System.out.println(what + " answered " + got + ", due is " + want);
+            tell(what + " answered " + got + ", due is " + want);
         }
     }
 
     static void due(String what, String got, String want) {
         if (!got.equals(want)) {
-            wrong++;
-            System.out.println(what + " answered " + got + ", due is " + want);
+            tell(what + " answered " + got + ", due is " + want);
         }
     }
 
-    static void argument(String what, Call call) {
-        due(what + " throws", thrown(call), "IllegalArgumentException");
-    }
-
-    static void illegalState(String what, Call call) {
-        due(what + " throws", thrown(call), "IllegalStateException");
-    }
-
     static void end() {
-        System.exit(wrong == 0 ? 0 : 1);
+        System.out.println(tests + " tests, " + wrong + " wrong answers");
+        System.exit(wrong == 0 && tests > 0 ? 0 : 1);
+    }
+
+    /** The name of the exception that a call throws. */
+    static String thrown(Call call) {
+        try {
+            call.run();
+            return "nothing";
+        } catch (RuntimeException e) {
+            return e.getClass().getSimpleName();
+        }
     }
 
     static int hash(int start, int count, IntUnaryOperator answer) {
@@ -88,12 +102,8 @@ final class Check {
         }
     }
 
-    private static String thrown(Call call) {
-        try {
-            call.run();
-            return "nothing";
-        } catch (RuntimeException e) {
-            return e.getClass().getSimpleName();
-        }
+    private static void tell(String what) {
+        wrong++;
+        System.out.println(name + ": " + what);
     }
 }

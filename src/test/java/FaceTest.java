@@ -14,14 +14,22 @@ public final class FaceTest {
         "public int sample(int)", "public int state(int,int)", "public int take()", "public void reset(int)");
 
     public static void main(String[] args) {
-        Check.due("the class is public and final", VoiceFrames.class.getModifiers(), Modifier.PUBLIC | Modifier.FINAL);
-        methods();
-        constructors();
+        Check.test("face: the class", FaceTest::modifiers);
+        Check.test("face: methods", FaceTest::methods);
+        Check.test("face: constructors", FaceTest::constructors);
+        Check.test("face: constants", FaceTest::allFields);
+        Check.end();
+    }
+
+    private static void modifiers() {
+        Check.due("public and final", VoiceFrames.class.getModifiers(), Modifier.PUBLIC | Modifier.FINAL);
+    }
+
+    private static void allFields() {
         fields(VoiceFrames.class);
         for (Class<?> inside : VoiceFrames.class.getDeclaredClasses()) {
             fields(inside);
         }
-        Check.end();
     }
 
     private static void methods() {

@@ -1,7 +1,7 @@
 /**
  * Promises 4 and 8 over tones of every height, by themselves or with some noise, over signals of the loudest
- * samples alone, and over smooth bumps, two frames each. The hashes are of the frames' bytes and of the second one's decoded samples as
- * libgsm 1.0.22 made them (see Golden).
+ * samples alone, and over smooth bumps, two frames each. The hashes are of the frames' bytes and of the second one's
+ * decoded samples as libgsm 1.0.22 made them (see Golden).
  */
 public final class SignalsTest {
     private static final int SAMPLES = 320;
@@ -189,16 +189,28 @@ public final class SignalsTest {
     };
 
     public static void main(String[] args) {
+        Check.test("promises 4 and 8: tones", SignalsTest::tones);
+        Check.test("promises 4 and 8: the loudest samples", SignalsTest::loudSignals);
+        Check.test("promises 4 and 8: smooth bumps", SignalsTest::bumps);
+        Check.end();
+    }
+
+    private static void tones() {
         for (int i = 0; i < TONE_FRAMES.length; i++) {
             signal("tone " + i, tone(i), TONE_FRAMES[i], TONE_SAMPLES[i]);
         }
+    }
+
+    private static void loudSignals() {
         for (int i = 0; i < LOUD_FRAMES.length; i++) {
             signal("loud signal " + i, loud(i), LOUD_FRAMES[i], LOUD_SAMPLES[i]);
         }
+    }
+
+    private static void bumps() {
         for (int i = 0; i < BUMP_FRAMES.length; i++) {
             signal("bump " + i, bump(i), BUMP_FRAMES[i], BUMP_SAMPLES[i]);
         }
-        Check.end();
     }
 
     private static int[] tone(int number) {
