@@ -1,5 +1,3 @@
-import java.util.Arrays;
-
 /** A frame's 76 parameters, and its 33 bytes by the document's bits. A new one is as quiet as can be. */
 final class Frame {
     static final int[] BITS = {6, 6, 5, 5, 4, 4, 3, 3};
@@ -42,7 +40,6 @@ final class Frame {
 
     int[] bytes() {
         int[] bytes = new int[33];
-        Arrays.fill(bytes, 0);
         bytes[0] = 0xd0;
         int at = 4;
         for (int i = 0; i < 76; i++) {

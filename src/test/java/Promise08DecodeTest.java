@@ -69,6 +69,15 @@ public final class Promise08DecodeTest {
                 return voice;
             });
         }
+        Twins.same("decode() of 11 with 50 samples at hand", () -> {
+            VoiceFrames voice = Twins.busy();
+            Check.due("decode() of 11", voice.decode(), VoiceFrames.NONE);
+            return voice;
+        }, () -> {
+            VoiceFrames voice = Twins.spoken(2);
+            voice.fill(3000, 10, 50);
+            return voice;
+        });
     }
 
     private static void otherBits() {

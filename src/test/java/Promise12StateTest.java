@@ -14,7 +14,7 @@ public final class Promise12StateTest {
         Check.end();
     }
 
-    /** A ramp down from the top, encoded and decoded. */
+    /** A ramp up from -32768, but for its first sample, encoded and decoded. */
     private static VoiceFrames ramp() {
         VoiceFrames voice = new VoiceFrames();
         voice.fill(32767, 1, 160);
@@ -33,38 +33,22 @@ public final class Promise12StateTest {
         }
     }
 
-    /** The loudest PULSES alone: in each part one stands at GRID + 3 i, so that the places tell what is oldest. */
+    /** The second part's PULSES are the oldest, those of the last part the newest. */
     private static void pasts() {
-        int[] bytes = new int[33];
-        bytes[0] = 0xd0;
-        int[] grids = {3, 0, 1, 2};
-        for (int part = 0; part < 4; part++) {
-            set(bytes, 40 + 56 * part, 7, 40);
-            set(bytes, 49 + 56 * part, 2, grids[part]);
-            set(bytes, 51 + 56 * part, 6, 63);
-            for (int i = 0; i < 13; i++) {
-                set(bytes, 57 + 56 * part + 3 * i, 3, 7);
-            }
-        }
-        VoiceFrames voice = new VoiceFrames();
-        Check.feedAll(voice, bytes);
-        voice.decode();
-        Check.due("cell 0 is of the second part", voice.state(3, 0), 28671);
-        Check.due("cell 1", voice.state(3, 1), 0);
-        Check.due("cell 40", voice.state(3, 40) < 28671 ? 1 : 0, 1);
-        Check.due("cell 41 is of the third part", voice.state(3, 41) >= 28671 ? 1 : 0, 1);
-        Check.due("cell 118 is of the last part", voice.state(3, 118), 28671);
+        Frame frame = new Frame().part(1, 40, 0, 0, 63).pulses(1, 7).part(2, 40, 0, 1, 0).part(3, 120, 0, 3, 62);
+        VoiceFrames voice = frame.pulses(3, 0).decoded();
+        Check.due("the oldest cell", voice.state(3, 0), 28671);
+        Check.due("the next one", voice.state(3, 1), 0);
+        Check.due("the second part's last PULSE", voice.state(3, 36), 28671);
+        Check.due("the third part's first cell is w", voice.state(3, 40), 2867);
+        Check.due("the third part's first PULSE", voice.state(3, 41), 4);
+        Check.due("the newest cell", voice.state(3, 119), -26879);
         VoiceFrames both = ramp();
-        for (int i = 0; i < 120; i++) {
-            Check.due("PAST " + i, both.state(2, i), both.state(3, i));
-        }
-        Check.due("the oldest", both.state(2, 0), both.state(3, 0));
-    }
-
-    private static void set(int[] bytes, int at, int bits, int value) {
-        for (int bit = 0; bit < bits; bit++) {
-            int one = (value >> (bits - 1 - bit)) & 1;
-            bytes[(at + bit) / 8] |= one << (7 - (at + bit) % 8);
+        int[] cells = {0, 3, 6, 39, 40, 41, 79, 80, 81, 117, 118, 119};
+        int[] due = {0, -176, -739, -458, -627, 0, 0, 0, -739, -458, 0, 0};
+        for (int i = 0; i < cells.length; i++) {
+            Check.due("PAST " + cells[i] + " of the encoding", both.state(2, cells[i]), due[i]);
+            Check.due("PAST " + cells[i] + " of the decoding", both.state(3, cells[i]), due[i]);
         }
     }
 
@@ -76,16 +60,13 @@ public final class Promise12StateTest {
         }
     }
 
-    /** V(0) is the last value that came out of the filter: m is made of it, and the sample of m. */
+    /** V(0) is the last value that came out of the filter; V(8) is not seen. */
     private static void v() {
-        VoiceFrames voice = new VoiceFrames();
-        voice.take();
-        voice.decode();
-        Check.due("sample(159)", voice.sample(159), (2 * voice.state(7, 1)) & -8);
-        int before = voice.sample(158);
-        int m = voice.state(7, 1);
-        int least = before / 2 * 28180 / 32768;
-        Check.due("m without V(0) is near the one before", Math.abs(m - voice.state(5, 0) - least) < 8 ? 1 : 0, 1);
+        int[] v = {-1875, -1498, -1515, -737, -215, -1026, -421, -115};
+        VoiceFrames voice = ramp();
+        for (int i = 0; i < 8; i++) {
+            Check.due("V " + i, voice.state(5, i), v[i]);
+        }
     }
 
     private static void inlet() {
@@ -98,6 +79,7 @@ public final class Promise12StateTest {
     private static void outlet() {
         VoiceFrames voice = ramp();
         Check.due("BACK", voice.state(7, 0), 120);
+        Check.due("m", voice.state(7, 1), -14527);
         Check.due("sample(159) is of m", voice.sample(159), (2 * voice.state(7, 1)) & -8);
     }
 

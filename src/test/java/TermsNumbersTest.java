@@ -37,26 +37,30 @@ public final class TermsNumbersTest {
         }
     }
 
-    /** A frame's last sample, and then 0: w = 16380 (32735 - 32768) by hand, and e is it, rounded. */
+    /** One loud sample, and then a 0: w = 16380 (32735 - 32768) by hand, and m is it, rounded. */
     private static void goesOn() {
-        VoiceFrames voice = new VoiceFrames();
-        voice.fill(0, 0, 159);
-        voice.put(32767);
-        voice.encode();
-        voice.fill(0, 0, 160);
-        voice.encode();
-        Check.due("z", voice.state(6, 0), 0);
-        Check.due("w is below 0 still", voice.state(6, 1) < 0 ? 1 : 0, 1);
-        VoiceFrames short1 = new VoiceFrames();
-        short1.fill(0, 0, 158);
-        short1.put(32767);
-        short1.put(0);
-        short1.encode();
-        Check.due("w", short1.state(6, 1), -540540);
-        Check.due("m", short1.state(6, 2), -16);
-        VoiceFrames other = new VoiceFrames();
-        other.fill(0, 0, 160);
-        other.encode();
-        Check.due("w of silence", other.state(6, 1), 0);
+        VoiceFrames silent = new VoiceFrames();
+        silent.fill(0, 0, 160);
+        silent.encode();
+        Check.due("w of silence", silent.state(6, 1), 0);
+        VoiceFrames inAFrame = new VoiceFrames();
+        inAFrame.fill(0, 0, 158);
+        inAFrame.put(32767);
+        inAFrame.put(0);
+        inAFrame.encode();
+        Check.due("z", inAFrame.state(6, 0), 0);
+        Check.due("w", inAFrame.state(6, 1), -540540);
+        Check.due("m", inAFrame.state(6, 2), -16);
+        VoiceFrames overFrames = new VoiceFrames();
+        overFrames.fill(0, 0, 159);
+        overFrames.put(32767);
+        overFrames.encode();
+        overFrames.fill(0, 0, 160);
+        overFrames.encode();
+        inAFrame.fill(0, 0, 159);
+        inAFrame.put(0);
+        inAFrame.encode();
+        Check.due("w 160 samples later is not 0 yet", overFrames.state(6, 1) < 0 ? 1 : 0, 1);
+        Check.due("w 161 samples later is nearer to 0", inAFrame.state(6, 1) > overFrames.state(6, 1) ? 1 : 0, 1);
     }
 }
