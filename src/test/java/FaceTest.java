@@ -8,10 +8,14 @@ import java.util.TreeSet;
 
 /** The public face has every member of the document and no other; nothing else can be seen or is static and changes. */
 public final class FaceTest {
+    private static final String NUMBER = " throws IllegalArgumentException";
+    private static final String TIME = " throws IllegalStateException";
+    private static final String BOTH = " throws IllegalArgumentException,IllegalStateException";
     private static final List<String> METHODS = List.of(
-        "public int about(int)", "public int decode()", "public int encode()", "public int feed(long,int)",
-        "public int fill(int,int,int)", "public int hand(int)", "public int parameter(int)", "public int put(int)",
-        "public int sample(int)", "public int state(int,int)", "public int take()", "public void reset(int)");
+        "public int put(int)" + BOTH, "public int fill(int,int,int)" + BOTH, "public int encode()" + TIME,
+        "public int parameter(int)" + NUMBER, "public int feed(long,int)" + BOTH, "public int take()",
+        "public int decode()", "public int hand(int)", "public int sample(int)" + NUMBER,
+        "public void reset(int)" + NUMBER, "public int state(int,int)" + NUMBER, "public int about(int)" + NUMBER);
 
     public static void main(String[] args) {
         Check.test("face: the class", FaceTest::modifiers);
@@ -38,7 +42,7 @@ public final class FaceTest {
         for (Method method : VoiceFrames.class.getDeclaredMethods()) {
             if (Modifier.isPublic(method.getModifiers())) {
                 publicNames.add(method.getName());
-                seen.add(method.toString().replace("VoiceFrames.", "").replaceAll(" throws.*", ""));
+                seen.add(method.toString().replace("VoiceFrames.", "").replace("java.lang.", ""));
             }
         }
         Check.due("public methods", seen.toString(), new TreeSet<>(METHODS).toString());
